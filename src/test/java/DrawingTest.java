@@ -20,6 +20,7 @@ public final class DrawingTest {
         room();
         around();
         spare();
+        spareIsFoundAtEachNumber();
         Check.finish("DrawingTest");
     }
 
@@ -220,5 +221,33 @@ public final class DrawingTest {
         late.drop(0);
         late.drop(1);
         Check.same("spare of lines with great numbers", 1, late.spare());
+    }
+
+    private static void spareIsFoundAtEachNumber() {
+        // only the line from 3 to 4 will do in the one, only the lines 0 to 6 and 1 to 5 together in the other
+        checkTurned(1, "34 21 52 24 65 61 46 37 57 54 03 50 17 01");
+        checkTurned(2, "06 51 40 42 63 31 34 74 14 52 07 17 32 16 50 20 73 72");
+        checkTurned(2, "06 40 42 63 31 34 74 14 52 07 17 32 51 16 50 20 73 72");
+    }
+
+    /** Asks with each of the lines as the first one, and with the least and with the greatest numbers. */
+    private static void checkTurned(int due, String written) {
+        String[] lines = written.split(" ");
+        for (int first = 0; first < lines.length; first++) {
+            PlanarSketch least = Desks.with(8, "");
+            PlanarSketch greatest = Desks.with(10, "");
+            for (int k = 0; k < 24 - lines.length; k++) {
+                greatest.line(k / 2, 8 + k % 2);
+            }
+            for (int k = 0; k < lines.length; k++) {
+                String next = lines[(first + k) % lines.length];
+                Desks.addLines(least, next);
+                Desks.addLines(greatest, next);
+            }
+            greatest.drop(8);
+            greatest.drop(9);
+            Check.same("spare, line " + first + " first", due, least.spare());
+            Check.same("spare, line " + first + " first, great numbers", due, greatest.spare());
+        }
     }
 }
