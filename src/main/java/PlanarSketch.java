@@ -682,9 +682,17 @@ public final class PlanarSketch {
                     if (paintFrom(web, i + 1, Math.max(used, c + 1))) {
                         return true;
                     }
+                    if (!hasLaterNeighbour(web, i)) {
+                        // another number here leaves the later nodes as stuck as they are
+                        return false;
+                    }
                 }
             }
             return false;
+        }
+
+        private static boolean hasLaterNeighbour(Web web, int i) {
+            return web.neighbours(i) >> i != 0;
         }
 
         private boolean isFree(Web web, int c, int i) {
