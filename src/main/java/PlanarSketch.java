@@ -173,7 +173,7 @@ public final class PlanarSketch {
         if (canDraw(lineBits)) {
             return 0;
         }
-        if (oneIsEnough(lineBits, 0)) {
+        if (oneIsEnough()) {
             return 1;
         }
         return twoAreEnough() ? 2 : 3;
@@ -371,10 +371,9 @@ public final class PlanarSketch {
         return web.reach(least, ~corners) & corners & ~(1 << least);
     }
 
-    /** Whether one of these lines, of that number or a greater one, can go so that the others are drawable. */
-    private boolean oneIsEnough(int chosen, int first) {
-        for (int l = first; l < LINES; l++) {
-            if (has(chosen, l) && canDraw(chosen & ~(1 << l))) {
+    private boolean oneIsEnough() {
+        for (int l = 0; l < LINES; l++) {
+            if (has(lineBits, l) && canDraw(lineBits & ~(1 << l))) {
                 return true;
             }
         }
@@ -383,8 +382,10 @@ public final class PlanarSketch {
 
     private boolean twoAreEnough() {
         for (int l = 0; l < LINES; l++) {
-            if (has(lineBits, l) && oneIsEnough(lineBits & ~(1 << l), l + 1)) {
-                return true;
+            for (int m = l + 1; m < LINES; m++) {
+                if (has(lineBits, l) && has(lineBits, m) && canDraw(lineBits & ~(1 << l) & ~(1 << m))) {
+                    return true;
+                }
             }
         }
         return false;
@@ -521,20 +522,20 @@ public final class PlanarSketch {
                 // more than Euler's formula leaves room for; so the back lines always fit in an int as bits
                 return false;
             }
-            return sidesCanBeFound(web);
-        }
-
-        private boolean sidesCanBeFound(Web web) {
-            backLines = 0;
-            clash = false;
-            Arrays.fill(depthOf, UNSEEN);
-            Arrays.fill(endingAt, 0);
+            forgetTheLastWalk();
             for (int a = 0; a < WEB_NODES && !clash; a++) {
                 if (depthOf[a] == UNSEEN) {
                     walk(web, a, NONE, 0);
                 }
             }
             return !clash;
+        }
+
+        private void forgetTheLastWalk() {
+            backLines = 0;
+            clash = false;
+            Arrays.fill(depthOf, UNSEEN);
+            Arrays.fill(endingAt, 0);
         }
 
         /** Walks on from a node; answers the back lines that lead from there or from further down to above it. */
@@ -549,7 +550,13 @@ public final class PlanarSketch {
                 if (b == from || !has(web.neighbours(a), b)) {
                     continue;
                 }
-                int found = returnsOver(web, a, b, depth);
+                int found = 0;
+                if (depthOf[b] == UNSEEN) {
+                    found = walk(web, b, a, depth + 1) & ~endingAt[depth];
+                } else if (depthOf[b] < depth) {
+                    // to a deeper node there is nothing: its back line to here has been counted there
+                    found = newBackLine(depthOf[b]);
+                }
                 if (found != 0) {
                     compareWithEarlier(found, depth, leaving);
                     leaving++;
@@ -557,14 +564,6 @@ public final class PlanarSketch {
                 }
             }
             return all;
-        }
-
-        private int returnsOver(Web web, int a, int b, int depth) {
-            if (depthOf[b] == UNSEEN) {
-                return walk(web, b, a, depth + 1) & ~endingAt[depth];
-            }
-            // a deeper node: its back line to here has been counted there
-            return depthOf[b] < depth ? newBackLine(depthOf[b]) : 0;
         }
 
         private int newBackLine(int endDepth) {
@@ -586,7 +585,9 @@ public final class PlanarSketch {
             for (int k = 0; k < leaving; k++) {
                 int one = endingBelow(highest[row + k], found);
                 int other = endingBelow(top, returns[row + k]);
-                partSides(one, other);
+                if ((one | other) != 0) {
+                    partSides(one, other);
+                }
             }
             returns[row + leaving] = found;
             highest[row + leaving] = top;
@@ -611,17 +612,15 @@ public final class PlanarSketch {
 
         /** Asks all of one set to lie on one side, and all of the other set on the other side. */
         private void partSides(int one, int other) {
-            if (Integer.bitCount(one | other) < 2) {
-                return;
-            }
             int side = 0;
             int across = 0;
             for (int n = 0; n < backLines; n++) {
-                if (has(one, n)) {
+                int bit = 1 << n;
+                if ((one & bit) != 0) {
                     side |= alike[n];
                     across |= opposed[n];
                 }
-                if (has(other, n)) {
+                if ((other & bit) != 0) {
                     side |= opposed[n];
                     across |= alike[n];
                 }
@@ -629,15 +628,12 @@ public final class PlanarSketch {
             if ((side & across) != 0) {
                 clash = true;
             }
-            keepSides(side, across);
-        }
-
-        private void keepSides(int side, int across) {
             for (int n = 0; n < backLines; n++) {
-                if (has(side, n)) {
+                int bit = 1 << n;
+                if ((side & bit) != 0) {
                     alike[n] = side;
                     opposed[n] = across;
-                } else if (has(across, n)) {
+                } else if ((across & bit) != 0) {
                     alike[n] = across;
                     opposed[n] = side;
                 }
