@@ -2,9 +2,19 @@ import java.util.Objects;
 
 /** Counts the answers that are not as due, and ends a test. */
 final class Check {
-    /** A call of the desk whose answer, or exception, is looked at. */
+    /** A call whose answer, or exception, is looked at. */
     interface Call {
         Object answer();
+    }
+
+    /** Makes the same desk each time it is asked, so that no desk is used for more than the document's 512 calls. */
+    interface Maker {
+        PlanarSketch make();
+    }
+
+    /** A call on a desk that is made for it. */
+    interface Ask {
+        Object on(PlanarSketch desk);
     }
 
     private static int asked = 0;
@@ -21,10 +31,19 @@ final class Check {
         }
     }
 
-    /** The call must throw just this exception and leave the desk as it was. */
-    static void refuses(String what, Class<? extends Exception> want, PlanarSketch desk, Call call) {
+    /** The call must throw just this exception and leave the desk as it was, in all that can be asked of it. */
+    static void refuses(String what, Class<? extends Exception> want, Maker maker, Ask ask) {
+        PlanarSketch desk = maker.make();
         String before = stateOf(desk);
-        same(what, "throws." + want.getSimpleName(), outcome(call));
+        same(what, "throws." + want.getSimpleName(), outcome(() -> ask.on(desk)));
+        same(what + " changes nothing", before, stateOf(desk));
+    }
+
+    /** The call must answer this and leave the desk as it was. */
+    static void tells(String what, Object want, Maker maker, Ask ask) {
+        PlanarSketch desk = maker.make();
+        String before = stateOf(desk);
+        same(what, String.valueOf(want), outcome(() -> ask.on(desk)));
         same(what + " changes nothing", before, stateOf(desk));
     }
 
@@ -37,18 +56,27 @@ final class Check {
         }
     }
 
+    /** What is held at the desk, and what it answers to all calls without an argument; at most 100 calls. */
     static String stateOf(PlanarSketch desk) {
         StringBuilder state = new StringBuilder();
-        state.append(desk.nodes()).append('/').append(desk.lines());
+        int nodes = desk.nodes();
+        int lines = desk.lines();
+        state.append(nodes).append('/').append(lines);
         for (int l = 0; l < 24; l++) {
-            if ((desk.lines() >> l & 1) != 0) {
+            if ((lines >> l & 1) != 0) {
                 state.append(' ').append(desk.end(l, 0)).append('-').append(desk.end(l, 1));
             }
         }
         for (int i = 0; i < 10; i++) {
             state.append(" (").append(desk.at(i, 0)).append(',').append(desk.at(i, 1)).append(')');
+            state.append((nodes >> i & 1) == 0 ? "" : " painted " + desk.colour(i));
         }
-        return state.toString();
+        state.append(" drawable ").append(desk.drawable()).append(" witness ").append(desk.witness());
+        state.append(" pattern ").append(desk.pattern()).append(" faces ").append(outcome(desk::faces));
+        state.append(" room ").append(desk.room()).append(" spare ").append(desk.spare());
+        state.append(" pieces ").append(desk.pieces()).append(" colours ").append(desk.colours());
+        state.append(" wrong ").append(desk.wrong()).append(" flat ").append(desk.flat());
+        return state.append(" box ").append(desk.box()).toString();
     }
 
     static void finish(String name) {

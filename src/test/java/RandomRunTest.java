@@ -1,9 +1,10 @@
 import java.util.Random;
 
-/** All promises: the same runs of calls, right and wrong ones, on the desk and on the slow model. */
+/** All promises: the same runs of 512 calls, right and wrong ones, on the desk and on the slow model. */
 public final class RandomRunTest {
-    private static final int RUNS = 240;
-    private static final int CALLS = 200;
+    private static final int RUNS = 120;
+    /** The document promises so many answers of one object. */
+    private static final int CALLS = 512;
 
     private final Random random;
     private final int run;
@@ -11,6 +12,7 @@ public final class RandomRunTest {
     private final SlowModel model = new SlowModel();
     private final int nodeCount;
     private final int span;
+    private int made = 0;
 
     private RandomRunTest(int run) {
         this.run = run;
@@ -34,7 +36,7 @@ public final class RandomRunTest {
         for (int k = 0; k < eager; k++) {
             ask(1, random.nextInt(nodeCount), random.nextInt(nodeCount), 0);
         }
-        for (int k = 0; k < CALLS; k++) {
+        while (made < CALLS) {
             int call = random.nextInt(30);
             ask(call < 27 ? call : 1, number(), number(), number());
         }
@@ -69,6 +71,10 @@ public final class RandomRunTest {
     }
 
     private void both(String what, Check.Call ours, Check.Call due) {
+        if (made == CALLS) {
+            return;
+        }
+        made++;
         Check.same(what, Check.outcome(due), Check.outcome(ours));
     }
 
