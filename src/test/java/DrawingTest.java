@@ -2,6 +2,7 @@
 public final class DrawingTest {
     public static void main(String[] args) {
         drawable();
+        clashesFoundLate();
         countOfDrawableNetworks();
         patternOfFive();
         patternOfSix();
@@ -38,6 +39,14 @@ public final class DrawingTest {
         fullest.cut(8);
         fullest.line(0, 1);
         Check.same("another line without a gap", false, fullest.drawable());
+    }
+
+    /** Networks in which the clash shows only after many back lines have been parted in sides. */
+    private static void clashesFoundLate() {
+        Check.same("eight nodes", false, Desks.with(8, "41 45 36 34 52 32 01 70 42 72 61 71 31 30 62").drawable());
+        Check.same("nine nodes", false,
+            Desks.with(9, "61 80 15 24 21 83 73 23 75 43 46 25 01 20 35 41 72").drawable());
+        Check.same("around 0, 1 and 4", false, Desks.with(7, "41 64 61 52 01 43 45 42 21 02 62 51 53").around(19));
     }
 
     /** How many of all networks on n given nodes can be drawn: 1, 2, 8, 64, 1023, 32071 (known from books). */
